@@ -132,6 +132,8 @@ public final class BackTest {
         CHECK.same("a line of no byte", read("00000000:            \n", 4, 2), "bad at 10");
         CHECK.same("an address that is not 0", read("00000001: 61  a\n", 1, 1), "bad at 7");
         CHECK.same("a second address that is wrong", read("00000000: 61  a\n00000002: 61  a\n", 1, 1), "bad at 23");
+        CHECK.same("an address of seven digits", read("0000000: 61  a\n", 1, 1), "bad at 7");
+        CHECK.same("an address of nine digits", read("000000000: 61  a\n", 1, 1), "bad at 8");
         CHECK.same("a byte seen as another", read("00000000: 61  b\n", 1, 1), "bad at 14");
         CHECK.same("a byte that is not seen", read("00000000: 0a  \n", 1, 1), "bad at 14");
         CHECK.same("a point that is one", read("00000000: 2e  .\n", 1, 1), "read .");

@@ -46,6 +46,13 @@ public final class LineTest {
         Check.type(x, "0123456789".repeat(8).substring(0, 79));
         CHECK.fails("81 characters", IllegalStateException.class, () -> Check.typeOnce(x, "ab"));
         CHECK.same("79 are still there", x.type(0, 0, 0, 0, 0), 79);
+        for (int k = 0; k < 5; k++) {
+            int[] w = new int[5];
+            w[k] = 0x61620000;
+            CHECK.fails("81 characters by number " + k, IllegalStateException.class,
+                    () -> x.type(w[0], w[1], w[2], w[3], w[4]));
+        }
+        CHECK.same("79 all the same", x.type(0, 0, 0, 0, 0), 79);
         CHECK.same("the 80th", x.type(0, 0, 0, 0, 'z'), 80);
         CHECK.fails("one more", IllegalStateException.class, () -> x.type('y', 0, 0, 0, 0));
         CHECK.same("none more is fine", x.type(0, 0, 0, 0, 0), 80);

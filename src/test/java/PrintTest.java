@@ -10,6 +10,7 @@ public final class PrintTest {
         characters();
         texts();
         escapedTexts();
+        endsOnce();
         missing();
         faults();
         faultChangesNothing();
@@ -85,6 +86,9 @@ public final class PrintTest {
         prints("[%5d][%-5d][%05d]", "[   42][42   ][00042]", 42, 42, 42);
         prints("[%+d][% d][%+ d][% +d]", "[+1][ 1][+1][+1]", 1, 1, 1, 1);
         prints("[%+d][% d]", "[-1][-1]", -1, -1);
+        prints("[% -+#05d][%d][%x][%-3d]", "[+1   ][1][1][1  ]", 1, 1, 1, 1);
+        prints("[% d][%d][%#x][%x][%5.3d][%d]", "[ 1][1][0x1][1][  001][1]", 1, 1, 1, 1, 1, 1);
+        prints("[%hhd][%d][%*d][%d][%.*d][%d]", "[1][257][  1][1][001][1]", 257, 257, 3, 1, 1, 3, 1, 1);
         prints("[%+u][% u][%+x][% o]", "[1][1][1][1]", 1, 1, 1, 1);
         prints("[%+05d][% 05d][%05d]", "[+0007][ 0007][-0007]", 7, 7, -7);
         prints("[%-05d][%0-5d][%05.2d][%-+5d]", "[7    ][7    ][   07][+7   ]", 7, 7, 7, 7);
@@ -155,6 +159,16 @@ public final class PrintTest {
         prints("[%b]", "[\\", "\\\\\\c");
     }
 
+    private static void endsOnce() {
+        FormatDump x = Check.ready("[%b]", "a\\c", "b");
+        CHECK.same("ended", x.print(), 2);
+        CHECK.same("ended again", x.print(), 2);
+        x.none();
+        Check.type(x, ".");
+        CHECK.same("the next print does not end", x.print(), 3);
+        CHECK.same("what it printed", Check.outputOf(x), "[].");
+    }
+
     private static void missing() {
         prints("[%d%i%u%o%x%X]", "[000000]");
         prints("[%c%s%b]", "[]");
@@ -166,6 +180,9 @@ public final class PrintTest {
         isBad("%", 0);
         isBad("ab%", 2);
         isBad("%e", 0);
+        isBad("%ad", 0);
+        isBad("%1ad", 0);
+        isBad("%.ad", 0);
         isBad("%d%f", 2);
         isBad("%5%", 0);
         isBad("%-%", 0);

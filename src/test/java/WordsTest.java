@@ -9,6 +9,7 @@ public final class WordsTest {
         lackingBytes();
         repeats();
         allSizes();
+        dumpAnew();
         wrongNumbers();
         CHECK.end();
     }
@@ -143,6 +144,16 @@ public final class WordsTest {
                 }
             }
         }
+    }
+
+    private static void dumpAnew() {
+        FormatDump x = Check.fed(Check.bytes(1, 2));
+        CHECK.same("first", x.words(8, 'o', 1, false), 24);
+        CHECK.same("second", x.words(16, 'x', 2, true), 19);
+        CHECK.same("only the second", Check.outputOf(x), "000000 0201\n000002\n");
+        CHECK.same("data stay", Check.dataOf(x), "\1\2");
+        CHECK.same("pairs", x.pairs(2, 0, true), 19);
+        CHECK.same("only the pairs", Check.outputOf(x), "00000000: 0102  ..\n");
     }
 
     private static void wrongNumbers() {

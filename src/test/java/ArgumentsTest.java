@@ -5,7 +5,9 @@ public final class ArgumentsTest {
     public static void main(String[] args) {
         numbers();
         texts();
+        textsOfEveryLength();
         limit();
+        limitAgain();
         clearing();
         CHECK.end();
     }
@@ -34,6 +36,48 @@ public final class ArgumentsTest {
         Check.type(x, "[%s]");
         CHECK.same("print", x.print(), 89);
         CHECK.same("the texts", Check.outputOf(x), "[abc][][" + longest + "]");
+    }
+
+    private static void textsOfEveryLength() {
+        for (int length = 0; length <= 80; length++) {
+            String text = "0123456789".repeat(8).substring(0, length);
+            FormatDump x = new FormatDump();
+            Check.type(x, text);
+            CHECK.same("a text of " + length, x.text(), 1);
+            CHECK.same("the line behind it", x.type(0, 0, 0, 0, 0), 0);
+            Check.type(x, "%s");
+            CHECK.same("print of " + length, x.print(), length);
+            CHECK.same("the text of " + length, Check.outputOf(x), text);
+        }
+        FormatDump x = new FormatDump();
+        for (int k = 0; k < 8; k++) {
+            Check.type(x, String.valueOf(k).repeat(80));
+            CHECK.same("eight texts of 80", x.text(), k + 1);
+        }
+        Check.type(x, "%s|");
+        CHECK.same("all of eight texts", x.print(), 8 * 81);
+        CHECK.same("the last character", x.output(8 * 81 - 2), (int) '7');
+    }
+
+    /** Eight again and again, of both kinds. */
+    private static void limitAgain() {
+        FormatDump x = new FormatDump();
+        for (int round = 0; round < 3; round++) {
+            for (int k = 1; k <= 8; k++) {
+                CHECK.same("number " + k, x.number(k), k);
+            }
+            CHECK.fails("a ninth number", IllegalStateException.class, () -> x.number(Long.MAX_VALUE));
+            CHECK.fails("a ninth text of nothing", IllegalStateException.class, () -> x.text());
+            CHECK.same("none of eight", x.none(), 8);
+            for (int k = 1; k <= 8; k++) {
+                CHECK.same("text " + k, x.text(), k);
+            }
+            CHECK.fails("a number behind eight texts", IllegalStateException.class, () -> x.number(0));
+            CHECK.fails("a text behind eight texts", IllegalStateException.class, () -> x.text());
+            CHECK.same("none of eight texts", x.none(), 8);
+        }
+        CHECK.same("number", x.number(0), 1);
+        CHECK.same("none of one", x.none(), 1);
     }
 
     private static void limit() {

@@ -8,8 +8,11 @@ public final class BackTest {
         nothing();
         everyTrim();
         everyPatch();
+        likeModel();
+        otherShapes();
         places();
         tooMany();
+        justTooMany();
         faultChangesNothing();
         wrongNumbers();
         CHECK.end();
@@ -123,6 +126,54 @@ public final class BackTest {
         }
     }
 
+    /** Every character of a dump becomes every other one that a dump has, and what is bad then is asked of the model. */
+    private static void likeModel() {
+        int[][] shapes = {{1, 1}, {2, 1}, {3, 2}, {4, 0}, {5, 3}};
+        String others = "0123456789abcdefABCDEFg: .\n\0\u00ff";
+        for (int[] shape : shapes) {
+            PairModel model = new PairModel(shape[0], shape[1]);
+            for (int many : new int[] {1, shape[0], shape[0] + 1, 2 * shape[0], 12}) {
+                FormatDump x = Check.fed(Check.mixed(many));
+                x.pairs(shape[0], shape[1], many % 2 == 0);
+                String all = Check.outputOf(x);
+                CHECK.same("the model has no fault", model.badPlace(all), -1);
+                for (int k = 0; k < all.length(); k++) {
+                    for (char other : others.toCharArray()) {
+                        int was = x.patch(k, other);
+                        int bad = model.badPlace(all.substring(0, k) + other + all.substring(k + 1));
+                        String what = "back(" + shape[0] + ", " + shape[1] + ") of " + many + ", " + (int) other + " at " + k;
+                        CHECK.same(what, x.back(shape[0], shape[1]), bad < 0 ? many : FormatDump.BAD);
+                        CHECK.same(what + ": place", x.place(), bad);
+                        x.patch(k, was);
+                    }
+                }
+            }
+        }
+    }
+
+    /** A dump of one shape, read as if it had another one. */
+    private static void otherShapes() {
+        for (int columns = 1; columns <= 6; columns++) {
+            for (int group = 0; group <= columns; group++) {
+                for (int shape = 0; shape < 7 * 7; shape++) {
+                    int asColumns = shape / 7;
+                    int asGroup = shape % 7;
+                    if (asColumns == 0 || asGroup > asColumns) {
+                        continue;
+                    }
+                    for (int many = 0; many <= 7; many++) {
+                        FormatDump x = Check.fed(Check.mixed(many));
+                        x.pairs(columns, group, false);
+                        int bad = new PairModel(asColumns, asGroup).badPlace(Check.outputOf(x));
+                        String what = "back(" + asColumns + ", " + asGroup + ") of pairs(" + columns + ", " + group + ") of " + many;
+                        CHECK.same(what, x.back(asColumns, asGroup), bad < 0 ? many : FormatDump.BAD);
+                        CHECK.same(what + ": place", x.place(), bad);
+                    }
+                }
+            }
+        }
+    }
+
     private static void places() {
         String good = "00000000: 6162 63    abc\n";
         CHECK.same("good", read(good, 4, 2), "read abc");
@@ -163,20 +214,7 @@ public final class BackTest {
         FormatDump x = nineLines();
         CHECK.same("990 characters 0", Check.outputOf(x), "0".repeat(990));
         int line = 109;
-        for (int k = 0; k < 9; k++) {
-            String front = String.format("%08x: ", 32 * k);
-            for (int j = 5; j < 10; j++) {
-                x.patch(line * k + j, front.charAt(j));
-            }
-            for (int j = 74; j < 76; j++) {
-                x.patch(line * k + j, ' ');
-            }
-            for (int j = 76; j < 108; j++) {
-                x.patch(line * k + j, '.');
-            }
-            x.patch(line * k + 108, '\n');
-        }
-        x.trim(line * 9);
+        patchTo(x, new PairModel(32, 0).dump(new byte[288]));
         Check.feed(x, Check.bytes(7));
         String output = Check.outputOf(x);
         CHECK.same("288 bytes", x.back(32, 0), FormatDump.FULL);
@@ -188,6 +226,40 @@ public final class BackTest {
         x.trim(line * 8);
         CHECK.same("256 bytes", x.back(32, 0), 256);
         CHECK.same("256 bytes 0", Check.dataOf(x), "\0".repeat(256));
+    }
+
+    /** Makes THE OUTPUT, which has as many characters or more, this one. */
+    private static void patchTo(FormatDump x, String output) {
+        for (int k = 0; k < output.length(); k++) {
+            x.patch(k, output.charAt(k));
+        }
+        x.trim(output.length());
+    }
+
+    /** 256 bytes are read back, 257 are FULL: in every shape whose dump has room. */
+    private static void justTooMany() {
+        for (int columns = 1; columns <= 32; columns++) {
+            for (int group = 0; group <= columns; group++) {
+                PairModel model = new PairModel(columns, group);
+                for (int many = 255; many <= 258; many++) {
+                    String dump = model.dump(Check.mixed(many));
+                    if (dump.length() > 2000) {
+                        continue;
+                    }
+                    FormatDump x = Check.fed(Check.bytes(7));
+                    Whole.fill(x, 2000);
+                    x.print();
+                    x.back(1, 1);
+                    patchTo(x, dump);
+                    String what = "back(" + columns + ", " + group + ") of " + many;
+                    CHECK.same(what, x.back(columns, group), many <= 256 ? many : FormatDump.FULL);
+                    CHECK.same(what + ": place", x.place(), -1);
+                    CHECK.same(what + ": data", Check.dataOf(x),
+                            many <= 256 ? Check.stringOf(Check.mixed(many)) : "\u0007");
+                    CHECK.same(what + ": output", Check.outputOf(x), dump);
+                }
+            }
+        }
     }
 
     private static void faultChangesNothing() {

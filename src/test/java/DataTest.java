@@ -4,8 +4,10 @@ public final class DataTest {
 
     public static void main(String[] args) {
         feeding();
+        everyCountOfData();
         feedingTooMuch();
         cutting();
+        cuttingFull();
         reading();
         CHECK.end();
     }
@@ -23,6 +25,49 @@ public final class DataTest {
             CHECK.same("feed of 2 more", x.feed(2, 0xaabb0000, 0, 0, 0), many + 2);
             CHECK.same("data of 2 more", Check.dataOf(x), all.substring(0, many) + "\u00aa\u00bb");
         }
+    }
+
+    /** From every number of DATA near both ends, every number more. */
+    private static void everyCountOfData() {
+        for (int had = 0; had <= 256; had++) {
+            if (had > 17 && had < 239) {
+                continue;
+            }
+            for (int many = 0; many <= 16; many++) {
+                FormatDump x = Check.fed(Check.mixed(had));
+                String what = many + " behind " + had;
+                int more = many;
+                if (had + many <= 256) {
+                    CHECK.same(what, x.feed(more, -1, -1, -1, -1), had + many);
+                    CHECK.same(what + ": data", Check.dataOf(x),
+                            Check.stringOf(Check.mixed(had)) + "\u00ff".repeat(many));
+                } else {
+                    CHECK.fails(what, IllegalStateException.class, () -> x.feed(more, -1, -1, -1, -1));
+                    CHECK.same(what + ": as before", Check.dataOf(x), Check.stringOf(Check.mixed(had)));
+                }
+            }
+        }
+        FormatDump full = Check.fed(Check.mixed(256));
+        CHECK.fails("17 behind 256", IllegalArgumentException.class, () -> full.feed(17, 0, 0, 0, 0));
+        CHECK.fails("-1 behind 256", IllegalArgumentException.class, () -> full.feed(-1, 0, 0, 0, 0));
+        FormatDump edges = new FormatDump();
+        edges.feed(16, Integer.MIN_VALUE, Integer.MAX_VALUE, -1, 1);
+        CHECK.same("the least and the greatest numbers", Check.dataOf(edges),
+                "\u0080\0\0\0\u007f\u00ff\u00ff\u00ff\u00ff\u00ff\u00ff\u00ff\0\0\0\1");
+    }
+
+    private static void cuttingFull() {
+        for (int n = 0; n <= 256; n++) {
+            FormatDump x = Check.fed(Check.mixed(256));
+            CHECK.same("cut(" + n + ") of 256", x.cut(n), 256 - n);
+            CHECK.same("the first " + n, Check.dataOf(x), Check.stringOf(Check.mixed(256)).substring(0, n));
+            int more = n + 1;
+            CHECK.fails("cut of one more than " + n, IllegalArgumentException.class, () -> x.cut(more));
+        }
+        FormatDump x = new FormatDump();
+        CHECK.same("cut(0) of none", x.cut(0), 0);
+        CHECK.fails("cut of the least", IllegalArgumentException.class, () -> x.cut(Integer.MIN_VALUE));
+        CHECK.fails("cut of the greatest", IllegalArgumentException.class, () -> x.cut(Integer.MAX_VALUE));
     }
 
     private static void feedingTooMuch() {

@@ -1,3 +1,5 @@
+import java.util.List;
+
 /** Promise 9, and texts as numbers. */
 public final class OddTest {
     private static final Check CHECK = new Check();
@@ -5,6 +7,9 @@ public final class OddTest {
     public static void main(String[] args) {
         plainTexts();
         oddTexts();
+        everyCharacter();
+        everyShortText();
+        longestTexts();
         counting();
         lastGoodPrint();
         CHECK.end();
@@ -78,6 +83,54 @@ public final class OddTest {
         reads(" 'a", "0", 1);
         reads("0'a", "0", 1);
         reads("00x1", "0", 1);
+    }
+
+    private static void likeModel(String text) {
+        PrintModel model = new PrintModel("%ld", List.of(text));
+        String due = model.print();
+        reads(text, due, model.odd());
+    }
+
+    /** Every character alone, behind a ' and behind a digit. */
+    private static void everyCharacter() {
+        for (int c = 1; c < 256; c++) {
+            reads("'" + (char) c, String.valueOf(c), 0);
+            reads("\"" + (char) c, String.valueOf(c), 0);
+            boolean digit = c >= '0' && c <= '9';
+            reads(String.valueOf((char) c), digit ? String.valueOf((char) c) : "0", digit ? 0 : 1);
+            reads("1" + (char) c, digit ? "1" + (char) c : "1", digit ? 0 : 1);
+            int octal = c >= '0' && c <= '7' ? c - '0' : -1;
+            reads("0" + (char) c, octal >= 0 ? String.valueOf(octal) : "0", octal >= 0 ? 0 : 1);
+            int hex = c < 128 ? Character.digit(c, 16) : -1;
+            reads("0x" + (char) c, String.valueOf(Math.max(0, hex)), hex >= 0 ? 0 : 1);
+        }
+    }
+
+    /** All texts of up to four of the characters that mean something. */
+    private static void everyShortText() {
+        String some = "+-0179xXaFg'\" ";
+        for (int length = 0; length <= 4; length++) {
+            int many = (int) Math.pow(some.length(), length);
+            for (int k = 0; k < many; k++) {
+                StringBuilder text = new StringBuilder();
+                for (int rest = k, j = 0; j < length; j++, rest /= some.length()) {
+                    text.append(some.charAt(rest % some.length()));
+                }
+                likeModel(text.toString());
+            }
+        }
+    }
+
+    private static void longestTexts() {
+        likeModel("9".repeat(80));
+        likeModel("-" + "9".repeat(79));
+        likeModel("0x" + "f".repeat(78));
+        likeModel("0x" + "e".repeat(77) + "g");
+        likeModel("0" + "7".repeat(79));
+        likeModel("0".repeat(80));
+        likeModel("0".repeat(79) + "8");
+        likeModel("1".repeat(79) + " ");
+        likeModel("'" + "a".repeat(79));
     }
 
     private static void counting() {

@@ -4,8 +4,11 @@ public final class OutputTest {
 
     public static void main(String[] args) {
         patching();
+        patchingEnds();
         trimming();
+        trimmingFull();
         placing();
+        placesOfEveryFault();
         seeing();
         CHECK.end();
     }
@@ -33,6 +36,56 @@ public final class OutputTest {
         CHECK.fails("patch of nothing", IndexOutOfBoundsException.class, () -> new FormatDump().patch(0, 1));
         x.print();
         CHECK.same("the line was not patched", Check.outputOf(x), "abc");
+    }
+
+    /** The first and the last character of the shortest and of the longest OUTPUT, to the least and the greatest. */
+    private static void patchingEnds() {
+        for (int many : new int[] {1, 2, 1999, 2000}) {
+            FormatDump x = new FormatDump();
+            Whole.fill(x, many);
+            x.print();
+            for (int k : new int[] {0, many - 1}) {
+                int first = x.output(k);
+                CHECK.same("patch(" + k + ") of " + many, x.patch(k, 0), first);
+                CHECK.same("patch to 255", x.patch(k, 255), 0);
+                CHECK.same("255", x.output(k), 255);
+                CHECK.fails("patch to 256", IllegalArgumentException.class, () -> x.patch(k, 256));
+                CHECK.fails("patch to -1", IllegalArgumentException.class, () -> x.patch(k, -1));
+                CHECK.same("255 still", x.patch(k, first), 255);
+            }
+            CHECK.fails("patch(" + many + ")", IndexOutOfBoundsException.class, () -> x.patch(many, 0));
+            CHECK.fails("patch(-1)", IndexOutOfBoundsException.class, () -> x.patch(-1, 0));
+            CHECK.same("as many as before", x.trim(0), many);
+            CHECK.fails("patch of none", IndexOutOfBoundsException.class, () -> x.patch(0, 0));
+        }
+    }
+
+    private static void trimmingFull() {
+        for (int n : new int[] {0, 1, 999, 1999, 2000}) {
+            FormatDump x = new FormatDump();
+            Whole.fill(x, 2000);
+            x.print();
+            CHECK.fails("trim(2001) of 2000", IllegalArgumentException.class, () -> x.trim(2001));
+            CHECK.same("trim(" + n + ") of 2000", x.trim(n), 2000 - n);
+            CHECK.same("behind the first " + n, x.output(n), -1);
+            CHECK.same("the last that stays", x.output(n - 1) == -1, n == 0);
+            CHECK.fails("trim of one more", IllegalArgumentException.class, () -> x.trim(n + 1));
+        }
+        FormatDump x = new FormatDump();
+        CHECK.same("trim(0) of nothing", x.trim(0), 0);
+        CHECK.fails("trim of the least", IllegalArgumentException.class, () -> x.trim(Integer.MIN_VALUE));
+        CHECK.fails("trim of the greatest", IllegalArgumentException.class, () -> x.trim(Integer.MAX_VALUE));
+    }
+
+    /** A fault at every place of THE LINE, of both kinds. */
+    private static void placesOfEveryFault() {
+        for (int k = 0; k < 80; k++) {
+            for (String bad : new String[] {"%", "\\"}) {
+                FormatDump x = Check.ready("x".repeat(k) + bad + (k < 79 ? "q" : ""));
+                CHECK.same("bad at " + k, x.print(), FormatDump.BAD);
+                CHECK.same("place " + k, x.place(), k);
+            }
+        }
     }
 
     private static void trimming() {

@@ -1,5 +1,3 @@
-import java.util.Arrays;
-
 /** Promise 13: pairs. */
 public final class PairsTest {
     private static final Check CHECK = new Check();
@@ -9,6 +7,7 @@ public final class PairsTest {
         digits();
         whatCanBeSeen();
         allShapes();
+        mostData();
         wrongNumbers();
         CHECK.end();
     }
@@ -64,37 +63,32 @@ public final class PairsTest {
         }
     }
 
-    /** A line made anew, from the places at which its characters stand. */
-    private static String line(byte[] bytes, int start, int columns, int group) {
-        int each = group == 0 ? columns : group;
-        int groups = (columns + each - 1) / each;
-        int many = Math.min(columns, bytes.length - start);
-        char[] made = new char[10 + 2 * columns + groups + 1 + many + 1];
-        Arrays.fill(made, ' ');
-        String.format("%08x:", start).getChars(0, 9, made, 0);
-        for (int k = 0; k < many; k++) {
-            int value = bytes[start + k] & 255;
-            String.format("%02x", value).getChars(0, 2, made, 10 + 2 * k + k / each);
-            made[made.length - 1 - many + k] = value >= 32 && value <= 126 ? (char) value : '.';
-        }
-        made[made.length - 1] = '\n';
-        return new String(made);
-    }
-
     private static void allShapes() {
         for (int columns = 1; columns <= 32; columns++) {
             for (int group = 0; group <= columns; group++) {
                 for (int many = 0; many <= 2 * columns + 1; many++) {
                     byte[] bytes = Check.mixed(many);
-                    StringBuilder due = new StringBuilder();
-                    for (int start = 0; start < many; start += columns) {
-                        due.append(line(bytes, start, columns, group));
-                    }
                     CHECK.same("pairs(" + columns + ", " + group + ") of " + many,
-                            dumped(bytes, columns, group, false), due.toString());
+                            dumped(bytes, columns, group, false), new PairModel(columns, group).dump(bytes));
                 }
             }
         }
+    }
+
+    /** The most DATA and one less, in every shape: all of them, or FULL where they are more than ROOM. */
+    private static void mostData() {
+        for (int columns = 1; columns <= 32; columns++) {
+            for (int group = 0; group <= columns; group++) {
+                for (int many = 255; many <= 256; many++) {
+                    byte[] bytes = Check.mixed(many);
+                    String due = new PairModel(columns, group).dump(bytes);
+                    String what = "pairs(" + columns + ", " + group + ") of " + many;
+                    CHECK.same(what, dumped(bytes, columns, group, false),
+                            due.length() <= 2000 ? due : "answer " + FormatDump.FULL + " output ");
+                }
+            }
+        }
+        CHECK.same("the last address of all", dumped(new byte[256], 3, 0, true).endsWith("\n000000FF: 00      .\n"), true);
     }
 
     private static void wrongNumbers() {

@@ -6,7 +6,9 @@ public final class RoomTest {
         bounds();
         printing();
         firstRoom();
+        everyRoom();
         dumping();
+        dumpsOfEveryLength();
         CHECK.end();
     }
 
@@ -16,6 +18,7 @@ public final class RoomTest {
         CHECK.fails("room(-1)", IllegalArgumentException.class, () -> x.room(-1));
         CHECK.fails("room(2001)", IllegalArgumentException.class, () -> x.room(2001));
         CHECK.fails("room of the least number", IllegalArgumentException.class, () -> x.room(Integer.MIN_VALUE));
+        CHECK.fails("room of the greatest number", IllegalArgumentException.class, () -> x.room(Integer.MAX_VALUE));
         CHECK.same("output stayed", Check.outputOf(x), "abc");
         x.room(2000);
         CHECK.same("room empties the output", x.output(0), -1);
@@ -65,6 +68,51 @@ public final class RoomTest {
         CHECK.same("1980 are more than 1979", z.print(), FormatDump.FULL);
         z.room(1980);
         CHECK.same("1980 fit into 1980", z.print(), 1980);
+    }
+
+    /** In every ROOM as many characters fit as it has, and not one more. */
+    private static void everyRoom() {
+        for (int room = 0; room <= 2000; room++) {
+            FormatDump x = new FormatDump();
+            x.room(room);
+            Whole.fill(x, room);
+            CHECK.same("print of " + room, x.print(), room);
+            CHECK.same("the last of " + room, x.output(room - 1) != -1, room > 0);
+            CHECK.same("behind the last of " + room, x.output(room), -1);
+            Whole.fill(x, room + 1);
+            CHECK.same("print of one more than " + room, x.print(), FormatDump.FULL);
+            CHECK.same("nothing of it", x.output(0), -1);
+            CHECK.fails("no character is left of it", IllegalArgumentException.class, () -> x.trim(1));
+        }
+    }
+
+    /** Dumps of all lengths in the room that they need, and in one less. */
+    private static void dumpsOfEveryLength() {
+        for (int many = 1; many <= 64; many++) {
+            FormatDump x = Check.fed(Check.mixed(many));
+            int words = x.words(10, 'd', 4, false);
+            int pairs = x.pairs(7, 3, true);
+            x.room(words);
+            CHECK.same("words of " + many, x.words(10, 'd', 4, false), words);
+            x.room(words - 1);
+            CHECK.same("words of " + many + " in less", x.words(10, 'd', 4, false), FormatDump.FULL);
+            CHECK.same("nothing of the words", x.output(0), -1);
+            x.room(pairs);
+            CHECK.same("pairs of " + many, x.pairs(7, 3, true), pairs);
+            x.room(pairs - 1);
+            CHECK.same("pairs of " + many + " in less", x.pairs(7, 3, true), FormatDump.FULL);
+            CHECK.same("nothing of the pairs", x.output(0), -1);
+        }
+        FormatDump none = new FormatDump();
+        none.room(0);
+        CHECK.same("no data in no room", none.pairs(16, 2, false), 0);
+        CHECK.same("no data and no address in no room", none.words(0, 'o', 1, false), 0);
+        CHECK.same("an address in no room", none.words(8, 'o', 1, false), FormatDump.FULL);
+        none.room(7);
+        CHECK.same("an address in room for all but 10", none.words(8, 'o', 1, false), FormatDump.FULL);
+        CHECK.same("a shorter address", none.words(16, 'o', 1, false), 7);
+        none.room(8);
+        CHECK.same("an address in its room", none.words(8, 'o', 1, false), 8);
     }
 
     private static void dumping() {

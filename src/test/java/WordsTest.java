@@ -1,3 +1,5 @@
+import java.math.BigInteger;
+
 /** Promise 12: words. */
 public final class WordsTest {
     private static final Check CHECK = new Check();
@@ -9,6 +11,10 @@ public final class WordsTest {
         lackingBytes();
         repeats();
         allSizes();
+        allLengths();
+        leastAndGreatest();
+        linesAlmostAlike();
+        runsOfLines();
         dumpAnew();
         wrongNumbers();
         CHECK.end();
@@ -144,6 +150,130 @@ public final class WordsTest {
                 }
             }
         }
+    }
+
+    /** DUMPING by words written once more. */
+    private static String model(byte[] bytes, int address, char type, int size, boolean all) {
+        StringBuilder made = new StringBuilder();
+        String addressFormat = address == 8 ? "%07o" : address == 10 ? "%07d" : address == 16 ? "%06x" : "";
+        String data = Check.stringOf(bytes);
+        String before = "";
+        boolean starred = false;
+        for (int start = 0; start < bytes.length; start += 16) {
+            String part = data.substring(start, Math.min(start + 16, data.length()));
+            if (!all && part.length() == 16 && part.equals(before)) {
+                made.append(starred ? "" : "*\n");
+                starred = true;
+                continue;
+            }
+            starred = false;
+            before = part;
+            made.append(String.format(addressFormat, start));
+            for (int k = 0; k < part.length(); k += size) {
+                String word = (part + "\0".repeat(8)).substring(k, k + size);
+                made.append(' ').append(field(new StringBuilder(word).reverse().toString(), type));
+            }
+            made.append('\n');
+        }
+        return made + String.format(addressFormat, bytes.length) + (address == 0 ? "" : "\n");
+    }
+
+    private static String field(String highestFirst, char type) {
+        int size = highestFirst.length();
+        byte[] bytes = Check.bytesOf(highestFirst);
+        BigInteger plain = new BigInteger(1, bytes);
+        int column = size == 1 ? 0 : size == 2 ? 1 : size == 4 ? 2 : 3;
+        switch (type) {
+            case 'o': return filled(plain.toString(8), '0', new int[] {3, 6, 11, 22}[column]);
+            case 'x': return filled(plain.toString(16), '0', new int[] {2, 4, 8, 16}[column]);
+            case 'u': return filled(plain.toString(), ' ', new int[] {3, 5, 10, 20}[column]);
+            default: return filled(new BigInteger(bytes).toString(), ' ', new int[] {4, 6, 11, 20}[column]);
+        }
+    }
+
+    private static String filled(String digits, char with, int width) {
+        return String.valueOf(with).repeat(width - digits.length()) + digits;
+    }
+
+    private static void likeModel(byte[] bytes, boolean all) {
+        for (int address : new int[] {0, 8, 10, 16}) {
+            for (char type : new char[] {'o', 'x', 'u', 'd'}) {
+                for (int size = 1; size <= 8; size *= 2) {
+                    dumps(model(bytes, address, type, size, all), bytes, address, type, size, all);
+                }
+            }
+        }
+    }
+
+    /** Every number of DATA, with its lines that are not full and its words that lack bytes. */
+    private static void allLengths() {
+        for (int many = 0; many <= 256; many++) {
+            likeModel(Check.mixed(many), many % 2 == 0);
+        }
+    }
+
+    /** Words of one byte repeated, and the least and the greatest with a sign. */
+    private static void leastAndGreatest() {
+        for (int size = 1; size <= 8; size *= 2) {
+            for (int value : new int[] {0, 1, 0x7f, 0x80, 0xff}) {
+                byte[] bytes = new byte[5 * size];
+                for (int k = 0; k < size; k++) {
+                    bytes[k] = (byte) value;
+                    bytes[2 * size + k] = (byte) (k == size - 1 ? value : 0);
+                    bytes[3 * size + k] = (byte) (k == size - 1 ? value : 0xff);
+                    bytes[4 * size + k] = (byte) (k == 0 ? value : 0);
+                }
+                likeModel(bytes, true);
+            }
+        }
+        dumps(" -128  127   -1\n", Check.bytes(0x80, 0x7f, 0xff), 0, 'd', 1, false);
+        dumps(" -32768  32767     -1\n", Check.bytes(0, 0x80, 0xff, 0x7f, 0xff, 0xff), 0, 'd', 2, false);
+        dumps(" -2147483648  2147483647          -1\n",
+                Check.bytes(0, 0, 0, 0x80, 0xff, 0xff, 0xff, 0x7f, 0xff, 0xff, 0xff, 0xff), 0, 'd', 4, false);
+        byte[] eights = Check.bytes(0, 0, 0, 0, 0, 0, 0, 0x80, 0xff, 0xff, 0xff, 0xff, 0xff, 0xff, 0xff, 0x7f);
+        dumps(" -9223372036854775808  9223372036854775807\n", eights, 0, 'd', 8, false);
+        dumps("  9223372036854775808  9223372036854775807\n", eights, 0, 'u', 8, false);
+        byte[] ones = Check.bytes(255, 255, 255, 255, 255, 255, 255, 255);
+        dumps(" 18446744073709551615\n", ones, 0, 'u', 8, false);
+        dumps("                   -1\n", ones, 0, 'd', 8, false);
+        dumps(" 1777777777777777777777\n", ones, 0, 'o', 8, false);
+        dumps(" 255\n", Check.bytes(255), 0, 'u', 1, false);
+        dumps("   255\n", Check.bytes(255), 0, 'u', 2, false);
+        dumps("        255\n", Check.bytes(255), 0, 'u', 4, false);
+        dumps("                  255\n", Check.bytes(255), 0, 'd', 8, false);
+        dumps("   -1\n", Check.bytes(255), 0, 'd', 1, false);
+        dumps("    255\n", Check.bytes(255), 0, 'd', 2, false);
+    }
+
+    /** A line is like the one before only if all sixteen bytes are. */
+    private static void linesAlmostAlike() {
+        for (int k = 0; k < 48; k++) {
+            byte[] bytes = new byte[48];
+            bytes[k] = 1;
+            likeModel(bytes, false);
+            boolean alike = k < 16 || k >= 32;
+            CHECK.same("a * with another byte at " + k, dumped(bytes, 0, 'x', 1, false).contains("*\n"), alike);
+        }
+        for (int many = 17; many <= 33; many++) {
+            CHECK.same("a * in " + many, dumped(new byte[many], 8, 'o', 2, false).contains("*"), many >= 32);
+            CHECK.same("no * in " + many + " where all is wanted",
+                    dumped(new byte[many], 8, 'o', 2, true).contains("*"), false);
+        }
+    }
+
+    /** Two sorts of lines in every order of six: with one * for each run, whatever its length. */
+    private static void runsOfLines() {
+        for (int order = 0; order < 64; order++) {
+            for (int rest = 0; rest < 16; rest += 5) {
+                byte[] bytes = new byte[6 * 16 + rest];
+                for (int k = 0; k < 96; k++) {
+                    bytes[k] = (byte) ((order >> (k / 16) & 1) * 7);
+                }
+                dumps(model(bytes, 8, 'o', 4, false), bytes, 8, 'o', 4, false);
+                dumps(model(bytes, 0, 'x', 1, true), bytes, 0, 'x', 1, true);
+            }
+        }
+        dumps(" 0000000000000000 0000000000000000\n*\n", new byte[256], 0, 'x', 8, false);
     }
 
     private static void dumpAnew() {

@@ -16,6 +16,7 @@ public final class StateTest {
         in("an ordinary object", StateTest::ordinary);
         in("a full object", StateTest::full);
         in("an object without room", StateTest::withoutRoom);
+        fullBack();
         whatGoodCallsChange();
         objectsShareNothing();
         CHECK.end();
@@ -203,6 +204,29 @@ public final class StateTest {
             patched.accept(x);
             CHECK.same(stateName + ": back", x.back(32, 0), FormatDump.BAD);
         }, due);
+    }
+
+    /** An OUTPUT that is a dump of 257 bytes, beside other DATA; odd is 1, place is 0. */
+    private static FormatDump withLargeDump() {
+        FormatDump x = Check.ready("%99d".repeat(12), "q", 1, 2);
+        x.room(1500);
+        x.print();
+        String dump = new PairModel(32, 0).dump(Check.mixed(257));
+        x.patch(0, 'q');
+        x.back(1, 1);
+        for (int k = 0; k < dump.length(); k++) {
+            x.patch(k, dump.charAt(k));
+        }
+        x.trim(dump.length());
+        Check.feed(x, Check.bytes(7, 8, 9));
+        return x;
+    }
+
+    private static void fullBack() {
+        enter("an object with a large dump", StateTest::withLargeDump);
+        CHECK.same("odd before", before.odd(), 1);
+        CHECK.same("place before", before.place(), 0);
+        leaves("a full back", x -> CHECK.same("back of 257", x.back(32, 0), FormatDump.FULL), before.withPlace(-1));
     }
 
     private static void looking() {
